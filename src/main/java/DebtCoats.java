@@ -859,16 +859,22 @@ public final class DebtCoats {
             int[] amounts = amountsBehind[depth + 1];
             System.arraycopy(amountsBehind[depth], 0, amounts, 0, COATS);
             int coat = order[depth];
+            int taxes = taxesOf(wornSet);
+            int mostGain = Math.max(who.income - taxes, 0);
             int lastDay = Math.min(bestDays, PLANNED_NIGHTS);
             int waited = day;
             int has = purse;
             while (has < amounts[coat] && waited < lastDay) {
-                has = purseNextDay(has, who.income, taxesOf(wornSet));
+                if (has + mostGain * (lastDay - waited) < amounts[coat]) {
+                    // Amounts never become less, so what all the nights can't bring is not worth the wait.
+                    return;
+                }
+                has = purseNextDay(has, who.income, taxes);
                 growAmounts(amounts, wornSet);
                 waited++;
             }
-            if (has >= amounts[coat]) {
-                int amount = amounts[coat];
+            int amount = amounts[coat];
+            if (has >= amount) {
                 tryEach(depth + 1, wornSet & ~(1 << coat), waited, has - amount, paid + amount);
             }
         }
@@ -926,15 +932,15 @@ public final class DebtCoats {
         int readCoats(Person onto) {
             place = 0;
             onto.worn = 0;
-            for (int k = 0; k < TEXT_COATS; k++) {
+            for (int k = 1; k <= TEXT_COATS; k++) {
                 if (!readCoat(onto)) {
-                    return FAULT - place;
+                    break;
                 }
                 if (nextByte() < 0) {
                     return onto.worn;
                 }
-                if (k == TEXT_COATS - 1 || !skipIf(';')) {
-                    return FAULT - place;
+                if (k == TEXT_COATS || !skipIf(';')) {
+                    break;
                 }
             }
             return FAULT - place;

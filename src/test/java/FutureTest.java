@@ -96,6 +96,7 @@ public final class FutureTest {
         CHECK.due("never free without it", one(0, 1, "a1;b9999;c1").saves(0, 1), 359);
         CHECK.due("never free with it", one(0, 1, "a9999;b9999;c1").saves(0, 1), 0);
         DebtCoats y = one(0, 1, "a1;b9999;c1;d1;e1;a1");
+        CHECK.due("six", y.saves(0, 1), 361 - 5);
         y.take(0, 0, 1, 0, 1);
         CHECK.due("seven", y.saves(0, 1), DebtCoats.FULL);
         CHECK.due("seven, full ahead of not", y.saves(0, 0), DebtCoats.FULL);
@@ -167,6 +168,8 @@ public final class FutureTest {
         for (int[] b : bad) {
             CHECK.due("under bad", x.under(b[0], b[1], b[2], b[3]), DebtCoats.BAD);
         }
+        x.ware(1, 1);
+        CHECK.due("the least that may be asked", x.under(4, 1, 1, 1), 16);
         CHECK.due("the most that may be asked", x.under(0, 99, 99999, 0), 0);
     }
 

@@ -79,6 +79,13 @@ public final class NightsTest {
         x.take(0, 0, 9, 0, 1);
         Checks.wear(x, 0, "e5");
         CHECK.due("2: alone", x.pay(0, 0), 0);
+        Checks.wear(x, 0, "a1;b2r3t4;c5r6t7");
+        x.rule(0, 1);
+        x.pay(0, 0);
+        int[] next = {1, 2, 3, 4};
+        for (int what = 0; what < 4; what++) {
+            CHECK.due("what lay over it " + what, x.coat(0, 0, what), next[what]);
+        }
     }
 
     private static void promise13Nights() {

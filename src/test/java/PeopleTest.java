@@ -131,6 +131,7 @@ public final class PeopleTest {
         x.person(0, 0, 1);
         CHECK.due("type 0 bytes", x.type(0x6131, 0), DebtCoats.BAD);
         CHECK.due("type 9 bytes", x.type(0x6131, 9), DebtCoats.BAD);
+        CHECK.due("type 9 bytes that may stand", x.type(0x2020202020202020L, 9), DebtCoats.BAD);
         CHECK.due("byte 31", x.type(0x611F, 2), DebtCoats.BAD);
         CHECK.due("byte 127", x.type(0x7F61, 2), DebtCoats.BAD);
         CHECK.due("byte 255", x.type(-1L, 8), DebtCoats.BAD);
