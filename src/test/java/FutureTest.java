@@ -12,6 +12,8 @@ public final class FutureTest {
         promise22Under();
         promise23And24Image();
         promise23And24AllIsKept();
+        promise23And24OfNobody();
+        promise23And24Wares();
         CHECK.end();
     }
 
@@ -215,6 +217,7 @@ public final class FutureTest {
         x.cut(0, 1);
         x.person(3, 3, 3);
         x.tax(2, 2, 2);
+        x.take(2, 0, 1, 0, 1);
         x.take(1, 0, 1, 0, 1);
         x.nights(20);
         x.restore();
@@ -225,6 +228,64 @@ public final class FutureTest {
         x.person(3, 3, 3);
         CHECK.due("who comes anew has no tax", x.tax(2, 2, 0), 0);
         CHECK.due("who comes anew has no coat", x.of(2, 3), 0);
+    }
+
+    private static void promise23And24OfNobody() {
+        DebtCoats x = new DebtCoats();
+        CHECK.due("an image of nobody", x.image(), 1);
+        x.person(9, 9, 1);
+        Checks.wear(x, 0, "a1t9;b2");
+        x.tax(0, 1, 4);
+        x.heat(0, 4);
+        x.rule(0, 2);
+        x.nights(2);
+        CHECK.due("fallen", x.count(3), 1);
+        CHECK.due("restore nobody", x.restore(), 1);
+        for (int what = 0; what <= 5; what++) {
+            CHECK.due("nobody again, count " + what, x.count(what), 0);
+        }
+        CHECK.due("nothing is owed", x.owed(0), 0);
+        CHECK.due("he is not there", x.of(0, 0), DebtCoats.BAD);
+        CHECK.due("heat is 0 again", x.heat(0, 0), 0);
+        CHECK.due("off is 0 again", x.rule(0, 0), 0);
+        CHECK.due("another comes", x.person(1, 2, 3), 0);
+        int[] want = {1, 2, 3, 0, 0, 0, DebtCoats.NONE};
+        for (int what = 0; what < want.length; what++) {
+            CHECK.due("the other is new, of " + what, x.of(0, what), want[what]);
+        }
+        CHECK.due("the other has no tax", x.tax(0, 1, 0), 0);
+        CHECK.due("the tape is not of the image", x.type('a', 1), 1);
+        x.image();
+        CHECK.due("the tape stays", x.type('5', 1), 2);
+        x.restore();
+        CHECK.due("the tape stays behind restore", x.coats(0), 1);
+        CHECK.due("five", x.owed(0), 5);
+    }
+
+    private static void promise23And24Wares() {
+        DebtCoats x = new DebtCoats();
+        x.ware(5, 1);
+        x.image();
+        x.ware(6, 2);
+        x.restore();
+        CHECK.due("one ware again", x.count(5), 1);
+        CHECK.due("the second is not there", x.under(1, 2, 6, 0), DebtCoats.BAD);
+        CHECK.due("another is the second", x.ware(7, 3), 1);
+        CHECK.due("it is as told", x.under(1, 3, 7, 1), 2);
+        x.image();
+        DebtCoats y = new DebtCoats();
+        y.image();
+        y.ware(5, 1);
+        y.restore();
+        y.ware(8, 4);
+        CHECK.due("the new first", y.under(0, 4, 8, 1), 1);
+        y.image();
+        y.restore();
+        CHECK.due("kept and back", y.under(0, 4, 8, 1), 1);
+        x.restore();
+        x.ware(1, 1);
+        x.restore();
+        CHECK.due("both are kept", x.under(0, 4, 12, 1), 3);
     }
 
     /** All that can be asked, and what can be seen by changing it and back. */

@@ -328,5 +328,20 @@ public final class NightsTest {
         y.nights(60);
         CHECK.due("amounts of one", y.of(0, 5), 8 * 999999);
         CHECK.due("9999999 at most", y.owed(3), 9999999);
+        Checks.wear(y, 1, "d9;a1");
+        y.take(1, 3, 9999, 0, 1);
+        CHECK.due("less than that", y.owed(3), 8 * 999999 + 9 + 9999);
+        Checks.wear(y, 0, "d9999r20;d9999r20;d9999r20;d9999r20;d9999r20");
+        Checks.wear(y, 1, "d9999r20;d9999r20;d9999r20;d9999r20;d9999r20");
+        y.nights(60);
+        CHECK.due("ten of 999999", y.owed(3), 9999990);
+        Checks.wear(y, 1, "d9999r20;d9999r20;d9999r20;d9999r20;d9999r20");
+        y.person(0, 0, 60);
+        y.nights(60);
+        y.take(2, 3, 9, 0, 1);
+        CHECK.due("just 9999999", y.owed(3), 9999999);
+        y.take(2, 3, 1, 0, 1);
+        CHECK.due("one more", y.owed(3), 9999999);
+        CHECK.due("another is owed nothing", y.owed(2), 0);
     }
 }

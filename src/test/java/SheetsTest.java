@@ -6,6 +6,9 @@ public final class SheetsTest {
         promise25Judged();
         promise25Refused();
         promise25Nights();
+        promise25ChangesNothing();
+        sheetsAreNothingAtFirst();
+        eachSheetIsItsOwn();
         promise26Sheet();
         promise27Drop();
         promise28Item();
@@ -86,6 +89,57 @@ public final class SheetsTest {
         CHECK.due("behind the heat the purse fills", judge(x, 66, 0, 1), 0);
         CHECK.due("by one night more", judge(x, 67, 0, 1), DebtCoats.NONE);
         CHECK.due("he is not fallen by it", x.count(3), 0);
+    }
+
+    private static void promise25ChangesNothing() {
+        DebtCoats x = new DebtCoats();
+        x.person(9, 1, 5);
+        Checks.wear(x, 0, "a9r20t5;b9t1");
+        x.image();
+        tell(x, 0, 0, 0, 0, 1, 100, 0, 0);
+        CHECK.due("judged to day 100", x.judged(0, 0, 0, 2), 1);
+        CHECK.due("the day", x.count(1), 0);
+        CHECK.due("who is fallen", x.count(3), 0);
+        CHECK.due("the purse", x.of(0, 0), 9);
+        CHECK.due("what is owed", x.of(0, 5), 18);
+        x.nights(1);
+        CHECK.due("the same again", x.judged(0, 0, 0, 2), 0);
+        x.restore();
+        CHECK.due("the image is no other", x.count(1), 0);
+        CHECK.due("nor what is owed in it", x.of(0, 5), 18);
+        CHECK.due("and once more", x.judged(0, 0, 0, 2), 1);
+    }
+
+    private static void sheetsAreNothingAtFirst() {
+        DebtCoats x = new DebtCoats();
+        for (int sheet = 0; sheet < 4; sheet++) {
+            for (int lane = 0; lane < 3; lane++) {
+                CHECK.due("item of nothing", x.item(sheet, lane, 0, 0), DebtCoats.NULL);
+                CHECK.due("judged of nothing", x.judged(sheet, lane, 0, 1), DebtCoats.NULL);
+            }
+            CHECK.due("copy of nothing", x.copy(sheet, 0, sheet, 0, 0), DebtCoats.NULL);
+            CHECK.due("drop of nothing", x.drop(sheet), DebtCoats.NULL);
+        }
+    }
+
+    private static void eachSheetIsItsOwn() {
+        DebtCoats x = new DebtCoats();
+        for (int sheet = 0; sheet < 4; sheet++) {
+            CHECK.due("a row of " + sheet, x.sheet(sheet, sheet % 3, sheet), sheet);
+        }
+        for (int sheet = 0; sheet < 4; sheet++) {
+            for (int lane = 0; lane < 3; lane++) {
+                int edge = lane == sheet % 3 ? DebtCoats.INDEX : DebtCoats.CAST;
+                CHECK.due("behind the last of " + sheet, x.item(sheet, lane, sheet, 1), edge);
+                if (sheet > 0) {
+                    int last = lane == sheet % 3 ? 1 : DebtCoats.CAST;
+                    CHECK.due("the last of " + sheet, x.item(sheet, lane, sheet - 1, 1), last);
+                }
+            }
+        }
+        for (int sheet = 0; sheet < 4; sheet++) {
+            CHECK.due("drop " + sheet, x.drop(sheet), sheet);
+        }
     }
 
     private static void promise26Sheet() {
