@@ -42,6 +42,14 @@ final class Checks {
         return answer;
     }
 
+    /** A sheet holds a row of a lane with these items. */
+    static void tell(DebtCoats x, int sheet, int lane, int... items) {
+        x.sheet(sheet, lane, items.length);
+        for (int k = 0; k < items.length; k++) {
+            x.item(sheet, lane, k, items[k]);
+        }
+    }
+
     static long bytesOf(String part) {
         long w = 0;
         for (char sign : part.toCharArray()) {

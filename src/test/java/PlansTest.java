@@ -278,10 +278,7 @@ public final class PlansTest {
     }
 
     private static int judge(DebtCoats x, int... items) {
-        x.sheet(0, 2, items.length);
-        for (int k = 0; k < items.length; k++) {
-            x.item(0, 2, k, items[k]);
-        }
+        Checks.tell(x, 0, 2, items);
         return x.judged(0, 2, 0, items.length / 3);
     }
 

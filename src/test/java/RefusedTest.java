@@ -61,8 +61,8 @@ public final class RefusedTest {
         x.image();
         x.nights(10);
         x.cut(0, 1);
-        tell(x, 0, 2, 40, 0, 2, 41, 2, 1, 99);
-        tell(x, 1, 0, 40, 2, 1, 127, 0, 2);
+        Checks.tell(x, 0, 2, 40, 0, 2, 41, 2, 1, 99);
+        Checks.tell(x, 1, 0, 40, 2, 1, 127, 0, 2);
         x.sheet(2, 1, 0);
         Checks.write(x, "c5r6t7");
         if (isFull) {
@@ -87,13 +87,6 @@ public final class RefusedTest {
         x.nights(19);
         Checks.write(x, " ".repeat(72));
         x.type(' ', 1);
-    }
-
-    private static void tell(DebtCoats x, int sheet, int lane, int... items) {
-        x.sheet(sheet, lane, items.length);
-        for (int k = 0; k < items.length; k++) {
-            x.item(sheet, lane, k, items[k]);
-        }
     }
 
     /** Everything that can be asked, the image's part too; the object is spent then. */

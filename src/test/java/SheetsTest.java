@@ -17,15 +17,8 @@ public final class SheetsTest {
         CHECK.end();
     }
 
-    private static void tell(DebtCoats x, int sheet, int lane, int... items) {
-        x.sheet(sheet, lane, items.length);
-        for (int k = 0; k < items.length; k++) {
-            x.item(sheet, lane, k, items[k]);
-        }
-    }
-
     private static int judge(DebtCoats x, int... items) {
-        tell(x, 3, 2, items);
+        Checks.tell(x, 3, 2, items);
         return x.judged(3, 2, 0, items.length / 3);
     }
 
@@ -60,7 +53,7 @@ public final class SheetsTest {
     private static void promise25Refused() {
         DebtCoats x = new DebtCoats();
         x.person(9, 9, 60);
-        tell(x, 0, 1, 0, 0, 0, 0, 0, 0, 0);
+        Checks.tell(x, 0, 1, 0, 0, 0, 0, 0, 0, 0);
         int[][] calls = {{-1, 1, 0, 1}, {4, 1, 0, 1}, {0, -1, 0, 1}, {0, 3, 0, 1}, {0, 1, 0, 0}, {0, 1, 0, 9},
             {1, 1, 0, 1}, {0, 0, 0, 1}, {0, 2, -1, 1}, {0, 1, -1, 1}, {0, 1, 5, 1}, {0, 1, 0, 3},
             {0, 1, Integer.MAX_VALUE, 1}, {0, 1, Integer.MIN_VALUE, 8}, {1, 2, -1, 0}};
@@ -73,7 +66,7 @@ public final class SheetsTest {
         }
         Checks.wear(x, 0, "a9");
         CHECK.due("from item 4 on", x.judged(0, 1, 4, 1), DebtCoats.NONE);
-        tell(x, 1, 0, 0, 0, 0, 0, 0, 0, 0, 0, 0, 0, 0, 0, 0, 0, 0, 0, 0, 0, 0, 0, 0, 0, 0, 0);
+        Checks.tell(x, 1, 0, 0, 0, 0, 0, 0, 0, 0, 0, 0, 0, 0, 0, 0, 0, 0, 0, 0, 0, 0, 0, 0, 0, 0, 0);
         CHECK.due("eight payments", x.judged(1, 0, 0, 8), 1);
     }
 
@@ -96,7 +89,7 @@ public final class SheetsTest {
         x.person(9, 1, 5);
         Checks.wear(x, 0, "a9r20t5;b9t1");
         x.image();
-        tell(x, 0, 0, 0, 0, 1, 100, 0, 0);
+        Checks.tell(x, 0, 0, 0, 0, 1, 100, 0, 0);
         CHECK.due("judged to day 100", x.judged(0, 0, 0, 2), 1);
         CHECK.due("the day", x.count(1), 0);
         CHECK.due("who is fallen", x.count(3), 0);
@@ -212,8 +205,8 @@ public final class SheetsTest {
         DebtCoats x = new DebtCoats();
         x.person(9, 0, 60);
         Checks.wear(x, 0, "a9");
-        tell(x, 0, 2, 7, 0, 0, 400, 400, 400);
-        tell(x, 1, 2, 400, 400, 400, 400);
+        Checks.tell(x, 0, 2, 7, 0, 0, 400, 400, 400);
+        Checks.tell(x, 1, 2, 400, 400, 400, 400);
         CHECK.due("copy to another", x.copy(0, 0, 1, 1, 3), 3);
         CHECK.due("copied", x.judged(1, 2, 1, 1), DebtCoats.NONE);
         CHECK.due("ahead of it all stays", x.judged(1, 2, 0, 1), 0);
