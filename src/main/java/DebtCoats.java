@@ -509,8 +509,9 @@ public final class DebtCoats {
         return Math.min(amount + amount * rate / 100, MOST_MONEY);
     }
 
+    /** In the order in which the document tells a NIGHT: what a full purse can't hold is cut off behind the taxes. */
     private static int purseNextDay(int purse, int income, int taxes) {
-        return Math.max(Math.min(purse + income, MOST_MONEY) - taxes, 0);
+        return Math.min(Math.max(purse + income - taxes, 0), MOST_MONEY);
     }
 
     /** One of PEOPLE; of the coats, 0 .. worn - 1, each row holds one thing told of them. */

@@ -24,11 +24,14 @@ public final class ModelTest {
     private final DebtCoats x = new DebtCoats();
     private final PlainModel model = new PlainModel();
     private final int hardness;
+    /** Some runs are of one with a purse nearly full, and of amounts that grow to the most that can be. */
+    private final boolean isRich;
     private boolean isAlike = true;
 
     private ModelTest(int seed) {
         random = new Random(seed);
         hardness = seed % 4 == 0 ? 25 : 3;
+        isRich = seed % 8 == 1;
     }
 
     public static void main(String[] args) throws ReflectiveOperationException {
@@ -43,7 +46,7 @@ public final class ModelTest {
         for (Object[] row : PLAN) {
             weights += (Integer) row[1];
         }
-        for (int call = 0; call < CALLS && isAlike; call++) {
+        for (int call = isRich ? enrich(seed) : 0; call < CALLS && isAlike; call++) {
             int drawn = random.nextInt(weights);
             int k = 0;
             while (drawn >= (Integer) PLAN[k][1]) {
@@ -56,6 +59,22 @@ public final class ModelTest {
                 ask(seed, (String) PLAN[k][0], arguments(PLAN[k]));
             }
         }
+    }
+
+    /** One comes whose purse is filled by coats taken on, in place of which he then wears others: how many calls. */
+    private int enrich(int seed) throws ReflectiveOperationException {
+        ask(seed, "person", 9999, random.nextInt(100), 60);
+        ask(seed, "tax", 0, random.nextInt(5), random.nextInt(10));
+        int calls = 2;
+        for (int round = 0; round < 17; round++) {
+            ask(seed, "type", Checks.bytesOf("a1"), 2);
+            ask(seed, "coats", 0);
+            for (int c = 1; c < 8; c++) {
+                ask(seed, "take", 0, random.nextInt(5), 9999 - random.nextInt(round < 12 ? 99 : 9999), 20, 1);
+            }
+            calls += 9;
+        }
+        return calls;
     }
 
     private Object[] arguments(Object[] row) {
@@ -84,7 +103,7 @@ public final class ModelTest {
         StringBuilder text = new StringBuilder();
         int coats = 1 + random.nextInt(random.nextInt(8) == 0 ? 8 : 5);
         for (int k = 0; k < coats; k++) {
-            text.append(k == 0 ? "" : ";").append((char) ('a' + random.nextInt(5))).append(1 + random.nextInt(150));
+            text.append(k == 0 ? "" : ";").append((char) ('a' + random.nextInt(5))).append(1 + random.nextInt(isRich ? 9999 : 150));
             text.append(random.nextBoolean() ? "r" + random.nextInt(random.nextInt(4) == 0 ? 22 : 6) : "");
             text.append(random.nextBoolean() ? "t" + (1 + random.nextInt(9)) : "");
         }

@@ -42,13 +42,14 @@ public final class PlainModel {
         }
 
         void sleep() {
-            purse = Math.min(999999, purse + income);
+            purse += income;
             int taxes = 0;
             for (Coat c : worn) {
                 c.amount = Math.min(999999, c.amount + c.amount * c.rate / 100);
                 taxes += tax[c.lender];
             }
             purse = taxes > purse ? 0 : purse - taxes;
+            purse = Math.min(999999, purse);
         }
     }
 

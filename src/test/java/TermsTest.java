@@ -8,6 +8,7 @@ public final class TermsTest {
         purseIs999999AtMostWhenOneTakes();
         purseIs999999AtMostBehindANight();
         taxesGoFromAFullPurse();
+        plansKnowTheSameNight();
         coatsAreEight();
         amountsGrowTo999999AtMost();
         interestIsCut();
@@ -105,12 +106,40 @@ public final class TermsTest {
         CHECK.due("the plan knows it", x.free(0, 0), 0);
     }
 
-    /** The PURSE is taken to be 999999 at most at all times: when the INCOME comes too, ahead of the TAXES. */
+    /** A NIGHT is told in its order: INCOME, TAXES, and only then is the PURSE 999999 at most. */
     private static void taxesGoFromAFullPurse() {
+        int[][] nights = {{999999, 99, 9, 999999}, {999999, 9, 9, 999999}, {999999, 8, 9, 999998}, {999999, 0, 9, 999990},
+            {999990, 17, 9, 999998}, {999990, 18, 9, 999999}, {999990, 19, 9, 999999}};
+        for (int[] n : nights) {
+            DebtCoats x = oneWho(n[0], n[1]);
+            x.tax(0, 0, n[2]);
+            x.nights(1);
+            CHECK.due(n[0] + " and " + n[1] + " less " + n[2], x.of(0, 0), n[3]);
+        }
+    }
+
+    /** The nights of a plan and of payments told are those that come. */
+    private static void plansKnowTheSameNight() {
         DebtCoats x = oneWho(999999, 99);
+        Checks.wear(x, 0, "a9999r20");
+        x.nights(60);
+        CHECK.due("the most that can be owed", x.coat(0, 0, 1), 999999);
+        x.take(0, 1, 9999, 0, 1);
         x.tax(0, 0, 9);
+        x.tax(0, 1, 8);
+        CHECK.due("the outer one is paid", x.pay(0, 1), 1);
+        CHECK.due("what is left", x.of(0, 0), 990000);
+        // 90 a night are left of the income: 111 nights bring 9990, one more what is missing, and the purse is full.
+        CHECK.due("in the plan he has it one day", x.free(0, 0), 112);
+        Checks.tell(x, 0, 2, x.count(1) + 111, 0, 0);
+        CHECK.due("judged a day ahead", x.judged(0, 2, 0, 1), 0);
+        x.item(0, 2, 0, x.count(1) + 112);
+        CHECK.due("judged on the day", x.judged(0, 2, 0, 1), DebtCoats.NONE);
+        x.nights(60);
+        x.nights(51);
+        CHECK.due("a day ahead", x.pay(0, 0), DebtCoats.NONE);
         x.nights(1);
-        CHECK.due("taxes of a full purse", x.of(0, 0), 999990);
+        CHECK.due("on the day", x.pay(0, 0), 0);
     }
 
     private static void coatsAreEight() {
